@@ -6,12 +6,18 @@ final class Checks {
 
     private int made;
     private int wrong;
+    private String sentence = "";
+
+    /** Tells which sentence of the document the next checks hold the program to. */
+    void about(String sentenceOfTheDocument) {
+        sentence = "\"" + sentenceOfTheDocument + "\" ";
+    }
 
     void equal(String what, long got, long due) {
         made++;
         if (got != due) {
             wrong++;
-            System.out.println(what + " answered " + got + ", due is " + due);
+            System.out.println(sentence + what + " answered " + got + ", due is " + due);
         }
     }
 
@@ -33,11 +39,11 @@ final class Checks {
                 return;
             }
             wrong++;
-            System.out.println(what + " threw " + thrown + ", due is " + due.getSimpleName());
+            System.out.println(sentence + what + " threw " + thrown + ", due is " + due.getSimpleName());
             return;
         }
         wrong++;
-        System.out.println(what + " threw nothing, due is " + due.getSimpleName());
+        System.out.println(sentence + what + " threw nothing, due is " + due.getSimpleName());
     }
 
     void outOfRange(String what, Call call) {
